@@ -852,7 +852,7 @@ public final class EffectCourt {
         private final Graph graph;
         private final World world;
         private final Row result = new Row(MOST_VALUES);
-        private final Row shares = new Row(MOST_VALUES);
+        private final Row parts = new Row(MOST_VALUES);
         private final Row table = new Row(MOST_VALUES);
         private final Row left = new Row(MOST_VALUES);
         private final Row upper = new Row(MOST_VALUES);
@@ -901,9 +901,8 @@ public final class EffectCourt {
 
         /** Fills the result for all values of both sets; the effect must be identified. */
         void reckon(int from, int on) {
-            int part = inverse(world.whole(0));
             for (int values = 0; values <= graph.all(); values++) {
-                shares.put(values, times(world.partsOf(values), part));
+                parts.put(values, world.partsOf(values));
             }
             result.fill(1);
             int needed = graph.above(on, graph.all() & ~from, 0);
@@ -932,7 +931,7 @@ public final class EffectCourt {
         /** Leads the table from all variables down to what a district does of itself. */
         private void reckonDistrict(int district) {
             for (int values = 0; values <= graph.all(); values++) {
-                table.put(values, shares.get(values));
+                table.put(values, parts.get(values));
             }
             int around = graph.districtOf(district, graph.all());
             takeOut(around, graph.all());
@@ -955,6 +954,7 @@ public final class EffectCourt {
         /**
          * Takes a district's factor out of the table of a set: for each of its variables, the
          * chance up to it over the chance ahead of it, the variables in an order of the arrows.
+         * So counts of parts serve for chances: their whole falls out here.
          */
         private void takeOut(int district, int set) {
             copyToLeft();

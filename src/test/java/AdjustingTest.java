@@ -78,6 +78,10 @@ final class AdjustingTest {
         sets("the middle and one more", both, 0, 1, 0b01100, 0b10100);
         EffectCourt unjoined = of(2);
         sets("two apart", unjoined, 1, 0, 0);
+        EffectCourt fresh = of(4, 2, 0, 2, 1, 3, 1, 0, 1);
+        expect.is("23 adjustmentAt ahead of all other calls", 0b0100,
+                () -> fresh.adjustmentAt(0, 1, 0));
+        expect.is("23 adjustmentAt of another pair", 0, () -> fresh.adjustmentAt(2, 3, 0));
     }
 
     private static void noSets() {
@@ -153,9 +157,9 @@ final class AdjustingTest {
         x.hide(1, 2);
         x.hide(3, 1);
         expect.is("26 an arrow to the first", true, () -> x.isInstrument(0, 1, 2));
+        expect.is("26 a descendant of the first is one too", true, () -> x.isInstrument(2, 1, 0));
         expect.is("26 a hidden cause with the first", true, () -> x.isInstrument(3, 1, 2));
         expect.is("26 one that is apart", false, () -> x.isInstrument(4, 1, 2));
-        expect.is("26 what comes of the first", true, () -> x.isInstrument(2, 1, 0));
         x.arrow(0, 2);
         expect.is("26 an arrow past the first", false, () -> x.isInstrument(0, 1, 2));
         x.remove(0, 2);

@@ -23,7 +23,141 @@ final class RandomTest {
                 classes(model);
             }
         }
+        for (int number = 0; number < 200; number++) {
+            grow();
+        }
         expect.close();
+    }
+
+    /** One object that is changed and asked in turn, with calls that throw between. */
+    private static void grow() {
+        EffectCourt x = new EffectCourt();
+        Model model = new Model(0);
+        StringBuilder run = new StringBuilder();
+        for (int step = 0; step < 40; step++) {
+            int one = next(model.size + 1);
+            int other = next(model.size + 1);
+            switch (next(6)) {
+                case 0 -> model = addVariable(x, model, run);
+                case 1, 2 -> addArrow(x, model, one, other, run);
+                case 3 -> dropArrow(x, model, one, other, run);
+                case 4 -> hide(x, model, one, other, run);
+                default -> setBits(x, model, one, next(65536), run);
+            }
+            if (model.size > 1) {
+                askGrown(x, model, run.toString());
+            }
+        }
+    }
+
+    private static Model addVariable(EffectCourt x, Model model, StringBuilder run) {
+        run.append("variable() ");
+        expect.is(run.toString(),
+                model.size < 6 ? (Object) model.size : IllegalStateException.class,
+                () -> x.variable());
+        if (model.size == 6) {
+            return model;
+        }
+        Model larger = new Model(model.size + 1);
+        for (int from = 0; from < model.size; from++) {
+            System.arraycopy(model.arrow[from], 0, larger.arrow[from], 0, model.size);
+        }
+        larger.hidden.addAll(model.hidden);
+        System.arraycopy(model.bits, 0, larger.bits, 0, model.size);
+        return larger;
+    }
+
+    private static void addArrow(EffectCourt x, Model model, int from, int to, StringBuilder run) {
+        run.append("arrow(").append(from).append(", ").append(to).append(") ");
+        Object due;
+        if (from >= model.size || to >= model.size) {
+            due = IndexOutOfBoundsException.class;
+        } else if (from == to || model.leads(to, from, model.all())) {
+            due = IllegalArgumentException.class;
+        } else if (model.arrow[from][to]) {
+            due = IllegalStateException.class;
+        } else {
+            model.arrow[from][to] = true;
+            due = model.arrows();
+        }
+        expect.is(run.toString(), due, () -> x.arrow(from, to));
+    }
+
+    private static void dropArrow(EffectCourt x, Model model, int from, int to, StringBuilder run) {
+        run.append("remove(").append(from).append(", ").append(to).append(") ");
+        Object due;
+        if (from >= model.size || to >= model.size) {
+            due = IndexOutOfBoundsException.class;
+        } else if (!model.arrow[from][to]) {
+            due = java.util.NoSuchElementException.class;
+        } else {
+            model.arrow[from][to] = false;
+            due = model.arrows();
+        }
+        expect.is(run.toString(), due, () -> x.remove(from, to));
+    }
+
+    private static void hide(EffectCourt x, Model model, int one, int other, StringBuilder run) {
+        run.append("hide(").append(one).append(", ").append(other).append(") ");
+        Object due;
+        if (one >= model.size || other >= model.size) {
+            due = IndexOutOfBoundsException.class;
+        } else if (one == other) {
+            due = IllegalArgumentException.class;
+        } else if (model.hidden.size() == 4) {
+            due = IllegalStateException.class;
+        } else {
+            model.hidden.add(new int[] {one, other});
+            due = model.hidden.size() - 1;
+        }
+        expect.is(run.toString(), due, () -> x.hide(one, other));
+    }
+
+    private static void setBits(EffectCourt x, Model model, int at, int bits, StringBuilder run) {
+        run.append("setBits(").append(at).append(", ").append(bits).append(") ");
+        Object due = IndexOutOfBoundsException.class;
+        if (at < model.size) {
+            due = model.bits[at];
+            model.bits[at] = bits;
+        }
+        expect.is(run.toString(), due, () -> x.setBits(at, bits));
+    }
+
+    /** A few calls of each kind, whatever was asked ahead of them. */
+    private static void askGrown(EffectCourt x, Model model, String run) {
+        int one = next(model.size);
+        int other = (one + 1 + next(model.size - 1)) % model.size;
+        int set = next(64) & model.all() & ~(1 << one | 1 << other);
+        int known = set | 1 << one;
+        String call = " with " + one + ", " + other + ", " + set + " after " + run;
+        Class<?> notDone = UnsupportedOperationException.class;
+        Class<?> absent = java.util.NoSuchElementException.class;
+        switch (next(8)) {
+            case 0 -> expect.is("chance" + call, model.chance(known, set).told(),
+                    () -> x.chance(known, set));
+            case 1 -> expect.is("trueEffect" + call,
+                    model.chance(set, set, 1 << one, 1 << one).told(),
+                    () -> x.trueEffect(set, set, 1 << one, 1 << one));
+            case 2 -> expect.is("effect" + call, model.barrier(set, 1 << one) != 0 ? notDone
+                    : (Object) model.chance(set, 0, 1 << one, 1 << one).told(),
+                    () -> x.effect(set, 0, 1 << one, 1 << one));
+            case 3 -> expect.is("graphs" + call, !model.hidden.isEmpty() ? notDone
+                    : (Object) model.family().size(), () -> x.graphs());
+            case 4 -> expect.is("told" + call, !model.hidden.isEmpty() ? notDone
+                    : (Object) Model.told(model.family(), one, other), () -> x.told(one, other));
+            case 5 -> expect.is("areIndependent" + call, model.independent(one, other, set),
+                    () -> x.areIndependent(one, other, set));
+            case 6 -> {
+                List<Integer> sets = model.leastSets(one, other);
+                expect.is("adjustmentAt" + call, sets.size() < 2 ? absent : (Object) sets.get(1),
+                        () -> x.adjustmentAt(one, other, 1));
+            }
+            default -> {
+                List<Integer> path = model.path(one, other, set);
+                expect.is("pathAt" + call, path == null ? absent : (Object) path.get(0),
+                        () -> x.pathAt(one, other, set, 0));
+            }
+        }
     }
 
     private static int next(int bound) {

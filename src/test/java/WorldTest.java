@@ -14,6 +14,7 @@ final class WorldTest {
         rowsBeyondTheBits();
         conditions();
         independence();
+        afterChanges();
         wrongInputs();
         expect.close();
     }
@@ -161,6 +162,32 @@ final class WorldTest {
         y.setBits(1, 0);
         expect.is("20 the hidden cause without weight at one end", true,
                 () -> y.areIndependent(1, 2, 0));
+    }
+
+    /** The table is asked for between all changes, so that none of them may leave it behind. */
+    private static void afterChanges() {
+        EffectCourt x = of(1);
+        expect.is("18 one variable", Share.of(1, 3).told(), () -> x.chance(1, 1));
+        x.setBits(0, 0b10);
+        expect.is("18 bits of a row that is not", Share.of(1, 3).told(), () -> x.chance(1, 1));
+        x.variable();
+        expect.is("18 another one", Share.of(1, 3).told(), () -> x.chance(3, 2) == x.chance(3, 1)
+                ? x.chance(2, 2) : -1);
+        x.arrow(1, 0);
+        expect.is("18 an arrow", Share.of(4, 9).told(), () -> x.chance(1, 1));
+        expect.is("15 an arrow", Share.of(2, 3).told(), () -> x.trueEffect(2, 2, 1, 1));
+        expect.is("14 an arrow", Share.of(2, 3).told(), () -> x.effect(2, 2, 1, 1));
+        x.setBits(1, 1);
+        expect.is("18 bits", Share.of(5, 9).told(), () -> x.chance(1, 1));
+        x.remove(1, 0);
+        expect.is("18 an arrow less", Share.of(1, 3).told(), () -> x.chance(1, 1));
+        expect.is("15 an arrow less", Share.of(1, 3).told(), () -> x.trueEffect(2, 2, 1, 1));
+        expect.is("14 an arrow less", Share.of(1, 3).told(), () -> x.effect(2, 2, 1, 1));
+        x.hide(0, 1);
+        expect.is("18 a hidden cause", Share.of(1, 2).told(), () -> x.chance(1, 1));
+        expect.is("15 a hidden cause", Share.of(1, 2).told(), () -> x.trueEffect(2, 2, 1, 1));
+        expect.is("14 a hidden cause", Share.of(1, 2).told(), () -> x.effect(2, 2, 1, 1));
+        expect.is("20 a hidden cause", false, () -> x.areIndependent(0, 1, 0));
     }
 
     private static void wrongInputs() {
