@@ -21,20 +21,9 @@ final class AdjustingTest {
         expect.close();
     }
 
-    private static EffectCourt of(int size, int... arrows) {
-        EffectCourt court = new EffectCourt();
-        for (int count = 0; count < size; count++) {
-            court.variable();
-        }
-        for (int number = 0; number + 1 < arrows.length; number += 2) {
-            court.arrow(arrows[number], arrows[number + 1]);
-        }
-        return court;
-    }
-
     /** 0 leads to 1 over 3; 2 leads to 0 and 1; 4 comes of 0 and 5 comes of nothing. */
     private static void adjusting() {
-        EffectCourt x = of(6, 0, 3, 3, 1, 2, 0, 2, 1, 0, 4);
+        EffectCourt x = Courts.of(6, 0, 3, 3, 1, 2, 0, 2, 1, 0, 4);
         expect.is("21 the common cause", true, () -> x.adjusts(0, 1, 0b000100));
         expect.is("21 nothing", false, () -> x.adjusts(0, 1, 0));
         expect.is("21 with one too many", true, () -> x.adjusts(0, 1, 0b100100));
@@ -44,7 +33,7 @@ final class AdjustingTest {
         expect.is("21 against the arrows", false, () -> x.adjusts(1, 0, 0b000100));
         expect.is("21 against the arrows with the way barred", true,
                 () -> x.adjusts(1, 0, 0b001100));
-        EffectCourt butterfly = of(5, 3, 0, 4, 1, 3, 2, 4, 2, 0, 1);
+        EffectCourt butterfly = Courts.of(5, 3, 0, 4, 1, 3, 2, 4, 2, 0, 1);
         expect.is("21 nothing is met", true, () -> butterfly.adjusts(0, 1, 0));
         expect.is("21 what is met opens", false, () -> butterfly.adjusts(0, 1, 0b00100));
         expect.is("21 opened and barred", true, () -> butterfly.adjusts(0, 1, 0b01100));
@@ -66,26 +55,26 @@ final class AdjustingTest {
     }
 
     private static void leastSets() {
-        EffectCourt chain = of(5, 2, 0, 2, 3, 3, 4, 4, 1, 0, 1);
+        EffectCourt chain = Courts.of(5, 2, 0, 2, 3, 3, 4, 4, 1, 0, 1);
         sets("one back way", chain, 0, 1, 0b00100, 0b01000, 0b10000);
-        EffectCourt two = of(6, 2, 0, 2, 3, 3, 1, 4, 0, 4, 5, 5, 1);
+        EffectCourt two = Courts.of(6, 2, 0, 2, 3, 3, 1, 4, 0, 4, 5, 5, 1);
         sets("two back ways", two, 0, 1, 0b010100, 0b011000, 0b100100, 0b101000);
-        EffectCourt sizes = of(6, 5, 0, 5, 2, 5, 3, 2, 1, 3, 1, 0, 1);
+        EffectCourt sizes = Courts.of(6, 5, 0, 5, 2, 5, 3, 2, 1, 3, 1, 0, 1);
         sets("fewer variables go first", sizes, 0, 1, 0b100000, 0b001100);
-        EffectCourt butterfly = of(5, 3, 0, 4, 1, 3, 2, 4, 2, 0, 1);
+        EffectCourt butterfly = Courts.of(5, 3, 0, 4, 1, 3, 2, 4, 2, 0, 1);
         sets("the empty set", butterfly, 0, 1, 0);
-        EffectCourt both = of(5, 3, 0, 4, 1, 3, 2, 4, 2, 2, 0, 2, 1, 0, 1);
+        EffectCourt both = Courts.of(5, 3, 0, 4, 1, 3, 2, 4, 2, 2, 0, 2, 1, 0, 1);
         sets("the middle and one more", both, 0, 1, 0b01100, 0b10100);
-        EffectCourt unjoined = of(2);
+        EffectCourt unjoined = Courts.of(2);
         sets("two apart", unjoined, 1, 0, 0);
-        EffectCourt fresh = of(4, 2, 0, 2, 1, 3, 1, 0, 1);
+        EffectCourt fresh = Courts.of(4, 2, 0, 2, 1, 3, 1, 0, 1);
         expect.is("23 adjustmentAt ahead of all other calls", 0b0100,
                 () -> fresh.adjustmentAt(0, 1, 0));
         expect.is("23 adjustmentAt of another pair", 0, () -> fresh.adjustmentAt(2, 3, 0));
     }
 
     private static void noSets() {
-        EffectCourt bow = of(3, 0, 1, 2, 0, 2, 1);
+        EffectCourt bow = Courts.of(3, 0, 1, 2, 0, 2, 1);
         bow.hide(0, 1);
         sets("the bow", bow, 0, 1);
         expect.is("24 adjusted of the bow", ABSENT, () -> bow.adjusted(0, 1, 1));
@@ -96,7 +85,7 @@ final class AdjustingTest {
     }
 
     private static void reckoning() {
-        EffectCourt x = of(3, 0, 2, 1, 0, 1, 2);
+        EffectCourt x = Courts.of(3, 0, 2, 1, 0, 1, 2);
         x.setBits(0, 0b10);
         x.setBits(2, 0b1000);
         expect.is("24 adjusted(0, 1, 2)", Share.of(4, 9).told(), () -> x.adjusted(0, 1, 2));
@@ -106,7 +95,7 @@ final class AdjustingTest {
                 () -> x.adjusted(1, 1, 2));
         expect.is("24 adjusted(0, -1, 2)", WRONG, () -> x.adjusted(0, -1, 2));
         expect.is("24 adjusted(0, 2, 2)", WRONG, () -> x.adjusted(0, 2, 2));
-        EffectCourt y = of(6, 2, 0, 2, 3, 3, 1, 4, 0, 4, 5, 5, 1, 0, 1);
+        EffectCourt y = Courts.of(6, 2, 0, 2, 3, 3, 1, 4, 0, 4, 5, 5, 1, 0, 1);
         y.setBits(0, 0b1001);
         y.setBits(3, 0b10);
         y.setBits(5, 0b01);
@@ -119,7 +108,7 @@ final class AdjustingTest {
     }
 
     private static void fronts() {
-        EffectCourt x = of(5, 0, 2, 2, 1, 0, 3, 3, 1);
+        EffectCourt x = Courts.of(5, 0, 2, 2, 1, 0, 3, 3, 1);
         x.hide(0, 1);
         expect.is("25 one way of two", false, () -> x.isFront(0, 1, 0b00100));
         expect.is("25 both ways", true, () -> x.isFront(0, 1, 0b01100));
@@ -130,30 +119,30 @@ final class AdjustingTest {
         x.hide(0, 3);
         expect.is("25 a hidden cause of the first one and one of it", false,
                 () -> x.isFront(0, 1, 0b01100));
-        EffectCourt y = of(4, 0, 2, 2, 1);
+        EffectCourt y = Courts.of(4, 0, 2, 2, 1);
         y.hide(2, 1);
         expect.is("25 a hidden cause of one of it and the second one", false,
                 () -> y.isFront(0, 1, 0b0100));
-        EffectCourt z = of(4, 0, 2, 2, 1, 0, 1);
+        EffectCourt z = Courts.of(4, 0, 2, 2, 1, 0, 1);
         expect.is("25 an arrow past it", false, () -> z.isFront(0, 1, 0b0100));
-        EffectCourt chain = of(4, 0, 2, 2, 3, 3, 1);
+        EffectCourt chain = Courts.of(4, 0, 2, 2, 3, 3, 1);
         expect.is("25 the first of two on the way", true, () -> chain.isFront(0, 1, 0b0100));
         expect.is("25 the second of two on the way", true, () -> chain.isFront(0, 1, 0b1000));
         expect.is("25 two on one way: no arrows from either", true,
                 () -> chain.isFront(0, 1, 0b1100));
-        EffectCourt back = of(4, 0, 2, 2, 1, 3, 0, 3, 1);
+        EffectCourt back = Courts.of(4, 0, 2, 2, 1, 3, 0, 3, 1);
         expect.is("25 a common cause of both", true, () -> back.isFront(0, 1, 0b0100));
         expect.is("25 with the common cause", false, () -> back.isFront(0, 1, 0b1100));
-        EffectCourt known = of(3, 0, 2, 0, 1);
+        EffectCourt known = Courts.of(3, 0, 2, 0, 1);
         expect.is("25 way past, but separated", false, () -> known.isFront(0, 1, 0b100));
-        EffectCourt open = of(3, 2, 1);
+        EffectCourt open = Courts.of(3, 2, 1);
         open.hide(0, 2);
         expect.is("25 a hidden cause of the first one and it", false,
                 () -> open.isFront(0, 1, 0b100));
     }
 
     private static void instruments() {
-        EffectCourt x = of(5, 0, 1, 1, 2);
+        EffectCourt x = Courts.of(5, 0, 1, 1, 2);
         x.hide(1, 2);
         x.hide(3, 1);
         expect.is("26 an arrow to the first", true, () -> x.isInstrument(0, 1, 2));
@@ -165,12 +154,12 @@ final class AdjustingTest {
         x.remove(0, 2);
         x.hide(0, 2);
         expect.is("26 a hidden cause with the third", false, () -> x.isInstrument(0, 1, 2));
-        EffectCourt y = of(4, 0, 1, 3, 0, 3, 2, 1, 2);
+        EffectCourt y = Courts.of(4, 0, 1, 3, 0, 3, 2, 1, 2);
         expect.is("26 a common cause with the third", false, () -> y.isInstrument(0, 1, 2));
     }
 
     private static void wrongSets() {
-        EffectCourt x = of(3, 0, 1);
+        EffectCourt x = Courts.of(3, 0, 1);
         int[][] outside = {{-1, 0, 0}, {3, 0, 0}, {0, 3, 0}, {0, -1, 0}, {3, 3, 8}};
         for (int[] each : outside) {
             wrongSet(x, each, RANGE);
@@ -188,7 +177,7 @@ final class AdjustingTest {
     }
 
     private static void wrongPairs() {
-        EffectCourt x = of(3, 0, 1);
+        EffectCourt x = Courts.of(3, 0, 1);
         int[][] outside = {{-1, 0}, {3, 0}, {0, 3}, {0, -1}, {3, 3}};
         for (int[] each : outside) {
             wrongPair(x, each[0], each[1], RANGE);

@@ -18,38 +18,28 @@ final class ClassTest {
         expect.close();
     }
 
-    private static EffectCourt of(int size, int... arrows) {
-        EffectCourt court = new EffectCourt();
-        for (int count = 0; count < size; count++) {
-            court.variable();
-        }
-        for (int number = 0; number + 1 < arrows.length; number += 2) {
-            court.arrow(arrows[number], arrows[number + 1]);
-        }
-        return court;
-    }
-
     private static void counts() {
-        expect.is("27 no variables", 1, () -> of(0).graphs());
-        expect.is("27 no arrows", 1, () -> of(6).graphs());
-        expect.is("27 one arrow", 2, () -> of(2, 1, 0).graphs());
-        expect.is("27 a chain of six", 6, () -> of(6, 0, 1, 1, 2, 2, 3, 3, 4, 4, 5).graphs());
-        expect.is("27 a star of six", 6, () -> of(6, 3, 0, 3, 1, 3, 2, 3, 4, 3, 5).graphs());
+        expect.is("27 no variables", 1, () -> Courts.of(0).graphs());
+        expect.is("27 no arrows", 1, () -> Courts.of(6).graphs());
+        expect.is("27 one arrow", 2, () -> Courts.of(2, 1, 0).graphs());
+        expect.is("27 a chain of six", 6,
+                () -> Courts.of(6, 0, 1, 1, 2, 2, 3, 3, 4, 4, 5).graphs());
+        expect.is("27 a star of six", 6, () -> Courts.of(6, 3, 0, 3, 1, 3, 2, 3, 4, 3, 5).graphs());
         expect.is("27 all five that lead to one", 1,
-                () -> of(6, 0, 3, 1, 3, 2, 3, 4, 3, 5, 3).graphs());
-        expect.is("27 three arrows apart", 8, () -> of(6, 0, 1, 2, 3, 4, 5).graphs());
+                () -> Courts.of(6, 0, 3, 1, 3, 2, 3, 4, 3, 5, 3).graphs());
+        expect.is("27 three arrows apart", 8, () -> Courts.of(6, 0, 1, 2, 3, 4, 5).graphs());
         expect.is("27 all joined", 720, () -> all(6).graphs());
         expect.is("27 five that are all joined", 120, () -> all(5).graphs());
         expect.is("27 a square with a diagonal", 3,
-                () -> of(4, 0, 1, 0, 2, 1, 3, 2, 3, 0, 3).graphs());
+                () -> Courts.of(4, 0, 1, 0, 2, 1, 3, 2, 3, 0, 3).graphs());
         expect.is("27 a square without its diagonal", 3,
-                () -> of(4, 0, 1, 0, 2, 1, 3, 2, 3).graphs());
-        expect.is("27 met, but joined", 6, () -> of(3, 0, 2, 1, 2, 0, 1).graphs());
-        expect.is("27 two of three leaves meet", 1, () -> of(4, 0, 3, 1, 3, 3, 2).graphs());
+                () -> Courts.of(4, 0, 1, 0, 2, 1, 3, 2, 3).graphs());
+        expect.is("27 met, but joined", 6, () -> Courts.of(3, 0, 2, 1, 2, 0, 1).graphs());
+        expect.is("27 two of three leaves meet", 1, () -> Courts.of(4, 0, 3, 1, 3, 3, 2).graphs());
     }
 
     private static EffectCourt all(int size) {
-        EffectCourt court = of(size);
+        EffectCourt court = Courts.of(size);
         for (int to = 0; to < size; to++) {
             for (int from = 0; from < to; from++) {
                 court.arrow(from, to);
@@ -59,7 +49,7 @@ final class ClassTest {
     }
 
     private static void told() {
-        EffectCourt x = of(5, 0, 2, 1, 2, 2, 3, 1, 4);
+        EffectCourt x = Courts.of(5, 0, 2, 1, 2, 2, 3, 1, 4);
         expect.is("28 told(0, 2) met", '>', () -> x.told(0, 2));
         expect.is("28 told(2, 0)", '<', () -> x.told(2, 0));
         expect.is("28 told(2, 3) would be met otherwise", '>', () -> x.told(2, 3));
@@ -76,7 +66,7 @@ final class ClassTest {
     }
 
     private static void afterChanges() {
-        EffectCourt x = of(3, 0, 2, 1, 2);
+        EffectCourt x = Courts.of(3, 0, 2, 1, 2);
         expect.is("27 met", 1, () -> x.graphs());
         expect.is("28 met", '>', () -> x.told(0, 2));
         x.arrow(0, 1);
@@ -92,7 +82,7 @@ final class ClassTest {
     }
 
     private static void withHiddenCauses() {
-        EffectCourt x = of(2, 0, 1);
+        EffectCourt x = Courts.of(2, 0, 1);
         expect.is("27 ahead of the hidden cause", 2, () -> x.graphs());
         x.hide(0, 1);
         expect.is("27 a hidden cause", NOT_DONE, () -> x.graphs());
@@ -102,9 +92,9 @@ final class ClassTest {
     }
 
     private static void shares() {
-        expect.is("30 no variable", REFUSED, () -> of(0).identifiedShare());
-        expect.is("30 one variable", REFUSED, () -> of(1).identifiedShare());
-        EffectCourt x = of(2, 0, 1);
+        expect.is("30 no variable", REFUSED, () -> Courts.of(0).identifiedShare());
+        expect.is("30 one variable", REFUSED, () -> Courts.of(1).identifiedShare());
+        EffectCourt x = Courts.of(2, 0, 1);
         expect.is("30 all", 1.0f, () -> x.identifiedShare());
         x.hide(0, 1);
         expect.is("30 all but the bow", 0.5f, () -> x.identifiedShare());
@@ -115,12 +105,12 @@ final class ClassTest {
     }
 
     private static void means() {
-        expect.is("31 no variable", REFUSED, () -> of(0).meanParents());
-        expect.is("31 no arrow", 0.0, () -> of(1).meanParents());
-        expect.is("31 one of two", 0.5, () -> of(2, 1, 0).meanParents());
-        expect.is("31 two of three", 2.0 / 3.0, () -> of(3, 1, 0, 2, 0).meanParents());
+        expect.is("31 no variable", REFUSED, () -> Courts.of(0).meanParents());
+        expect.is("31 no arrow", 0.0, () -> Courts.of(1).meanParents());
+        expect.is("31 one of two", 0.5, () -> Courts.of(2, 1, 0).meanParents());
+        expect.is("31 two of three", 2.0 / 3.0, () -> Courts.of(3, 1, 0, 2, 0).meanParents());
         expect.is("31 all", 2.5, () -> all(6).meanParents());
-        EffectCourt x = of(2);
+        EffectCourt x = Courts.of(2);
         x.hide(0, 1);
         expect.is("31 hidden causes are no parents", 0.0, () -> x.meanParents());
     }

@@ -19,17 +19,6 @@ final class EffectTest {
         expect.close();
     }
 
-    private static EffectCourt of(int size, int... arrows) {
-        EffectCourt court = new EffectCourt();
-        for (int count = 0; count < size; count++) {
-            court.variable();
-        }
-        for (int number = 0; number + 1 < arrows.length; number += 2) {
-            court.arrow(arrows[number], arrows[number + 1]);
-        }
-        return court;
-    }
-
     private static void bars(String name, EffectCourt x, int from, int on, int barrier) {
         String call = "(" + from + ", " + on + ") of " + name;
         expect.is("12 isIdentified" + call, barrier == 0, () -> x.isIdentified(from, on));
@@ -46,11 +35,11 @@ final class EffectTest {
 
     /** Graphs of the books of which it is known whether the effect is identified. */
     private static void known() {
-        EffectCourt bow = of(2, 0, 1);
+        EffectCourt bow = Courts.of(2, 0, 1);
         bow.hide(0, 1);
         bars("the bow", bow, 0b01, 0b10, 0b11);
         bars("the bow", bow, 0b10, 0b01, 0);
-        EffectCourt front = of(3, 0, 1, 1, 2);
+        EffectCourt front = Courts.of(3, 0, 1, 1, 2);
         front.hide(0, 2);
         front.setBits(0, 1);
         front.setBits(1, 2);
@@ -58,36 +47,36 @@ final class EffectTest {
         bars("the front door", front, 0b001, 0b100, 0);
         bars("the front door", front, 0b001, 0b110, 0);
         bars("the front door", front, 0b010, 0b101, 0);
-        EffectCourt instrument = of(3, 0, 1, 1, 2);
+        EffectCourt instrument = Courts.of(3, 0, 1, 1, 2);
         instrument.hide(1, 2);
         bars("the instrument", instrument, 0b010, 0b100, 0b110);
         bars("the instrument", instrument, 0b001, 0b100, 0);
         bars("the instrument", instrument, 0b011, 0b100, 0b110);
-        EffectCourt middle = of(3, 0, 1, 1, 2);
+        EffectCourt middle = Courts.of(3, 0, 1, 1, 2);
         middle.hide(0, 1);
         middle.hide(0, 2);
         bars("a bow ahead of the front", middle, 0b001, 0b100, 0b011);
-        EffectCourt apart = of(2);
+        EffectCourt apart = Courts.of(2);
         apart.hide(0, 1);
         bars("two apart", apart, 0b01, 0b10, 0);
     }
 
     private static void barred() {
-        EffectCourt twice = of(4, 0, 1, 2, 3);
+        EffectCourt twice = Courts.of(4, 0, 1, 2, 3);
         twice.hide(2, 3);
         twice.hide(0, 1);
         bars("two bows", twice, 0b0101, 0b1010, 0b0011);
         bars("two bows", twice, 0b0100, 0b1010, 0b1100);
-        EffectCourt high = of(4, 3, 0, 1, 2);
+        EffectCourt high = Courts.of(4, 3, 0, 1, 2);
         high.hide(3, 0);
         high.hide(1, 2);
         bars("bows whose lowest ones differ", high, 0b1010, 0b0101, 0b1001);
         bars("only the second one needed", high, 0b1010, 0b0100, 0b0110);
-        EffectCourt narrowed = of(3, 0, 1);
+        EffectCourt narrowed = Courts.of(3, 0, 1);
         narrowed.hide(0, 1);
         narrowed.hide(1, 2);
         bars("a district that is narrowed once", narrowed, 0b001, 0b010, 0b011);
-        EffectCourt deeper = of(5, 0, 1, 1, 2, 2, 3);
+        EffectCourt deeper = Courts.of(5, 0, 1, 1, 2, 2, 3);
         deeper.hide(0, 2);
         deeper.hide(2, 4);
         deeper.hide(4, 3);
@@ -95,7 +84,7 @@ final class EffectTest {
     }
 
     private static void confounded() {
-        EffectCourt x = of(3, 0, 2, 1, 0, 1, 2);
+        EffectCourt x = Courts.of(3, 0, 2, 1, 0, 1, 2);
         x.setBits(0, 0b10);
         x.setBits(2, 0b1000);
         expect.is("14 effect", Share.of(4, 9).told(), () -> x.effect(1, 1, 4, 4));
@@ -110,7 +99,7 @@ final class EffectTest {
         expect.is("14 effect of two", Share.of(2, 3).told(), () -> x.effect(3, 3, 4, 4));
         expect.is("14 effect on two", Share.of(2, 9).told(), () -> x.effect(1, 1, 6, 6));
         expect.is("15 trueEffect on two", Share.of(2, 9).told(), () -> x.trueEffect(1, 1, 6, 6));
-        EffectCourt bow = of(2, 0, 1);
+        EffectCourt bow = Courts.of(2, 0, 1);
         bow.hide(0, 1);
         bow.setBits(0, 0b10);
         bow.setBits(1, 0b1000);
@@ -125,7 +114,7 @@ final class EffectTest {
 
     /** 0 leads to 1 to 2 to 3, and 0 has a hidden cause with 2 and with 3: two steps down. */
     private static void napkin() {
-        EffectCourt x = of(4, 0, 1, 1, 2, 2, 3);
+        EffectCourt x = Courts.of(4, 0, 1, 1, 2, 2, 3);
         x.hide(0, 2);
         x.hide(0, 3);
         x.setBits(0, 0b1000);
@@ -141,7 +130,7 @@ final class EffectTest {
     }
 
     private static void ofNothing() {
-        EffectCourt x = of(3, 0, 1, 1, 2);
+        EffectCourt x = Courts.of(3, 0, 1, 1, 2);
         x.hide(0, 1);
         x.hide(1, 2);
         x.setBits(1, 0b1010);
@@ -157,7 +146,7 @@ final class EffectTest {
     }
 
     private static void wrongInputs() {
-        EffectCourt x = of(2, 0, 1);
+        EffectCourt x = Courts.of(2, 0, 1);
         x.hide(0, 1);
         int[][] sets = {{1, 0}, {0, 0}, {1, 1}, {1, 3}, {4, 1}, {1, 4}, {-1, 1}, {0, -1}, {5, 2},
             {0, Integer.MIN_VALUE}};

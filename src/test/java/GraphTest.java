@@ -21,14 +21,6 @@ final class GraphTest {
         expect.close();
     }
 
-    private static EffectCourt of(int size) {
-        EffectCourt court = new EffectCourt();
-        for (int count = 0; count < size; count++) {
-            court.variable();
-        }
-        return court;
-    }
-
     private static void newObject() {
         EffectCourt x = new EffectCourt();
         expect.is("1 rows(0)", RANGE, () -> x.rows(0));
@@ -55,7 +47,7 @@ final class GraphTest {
     }
 
     private static void arrows() {
-        EffectCourt x = of(4);
+        EffectCourt x = Courts.of(4);
         expect.is("3 arrow(0, 1)", 1, () -> x.arrow(0, 1));
         expect.is("3 arrow(1, 2)", 2, () -> x.arrow(1, 2));
         expect.is("3 arrow(3, 0)", 3, () -> x.arrow(3, 0));
@@ -75,7 +67,7 @@ final class GraphTest {
     }
 
     private static void removing() {
-        EffectCourt x = of(3);
+        EffectCourt x = Courts.of(3);
         x.arrow(0, 1);
         x.arrow(1, 2);
         expect.is("4 remove(1, 0): the other way is not there", ABSENT, () -> x.remove(1, 0));
@@ -98,7 +90,7 @@ final class GraphTest {
     }
 
     private static void hiding() {
-        EffectCourt x = of(3);
+        EffectCourt x = Courts.of(3);
         expect.is("5 hide(0, 1)", 0, () -> x.hide(0, 1));
         expect.is("5 hide(1, 0): another one of the same", 1, () -> x.hide(1, 0));
         expect.is("5 hide(2, 2)", WRONG, () -> x.hide(2, 2));
@@ -118,7 +110,7 @@ final class GraphTest {
     }
 
     private static void kin() {
-        EffectCourt x = of(5);
+        EffectCourt x = Courts.of(5);
         x.arrow(4, 3);
         x.arrow(3, 1);
         x.arrow(1, 0);
@@ -143,7 +135,7 @@ final class GraphTest {
     }
 
     private static void districts() {
-        EffectCourt x = of(6);
+        EffectCourt x = Courts.of(6);
         x.hide(5, 4);
         x.hide(3, 4);
         x.hide(0, 3);

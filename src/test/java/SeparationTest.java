@@ -19,17 +19,6 @@ final class SeparationTest {
         expect.close();
     }
 
-    private static EffectCourt of(int size, int... arrows) {
-        EffectCourt court = new EffectCourt();
-        for (int count = 0; count < size; count++) {
-            court.variable();
-        }
-        for (int number = 0; number + 1 < arrows.length; number += 2) {
-            court.arrow(arrows[number], arrows[number + 1]);
-        }
-        return court;
-    }
-
     /** Compares all steps of the path, and that there is none ahead of and behind them. */
     private static void path(EffectCourt x, int one, int other, int set, int... steps) {
         String call = "(" + one + ", " + other + ", " + set + ")";
@@ -52,14 +41,14 @@ final class SeparationTest {
     }
 
     private static void chainForkAndMeeting() {
-        EffectCourt chain = of(3, 0, 1, 1, 2);
+        EffectCourt chain = Courts.of(3, 0, 1, 1, 2);
         path(chain, 0, 2, 0, 10, 20);
         path(chain, 2, 0, 0, 11, 1);
         path(chain, 0, 2, 0b010);
-        EffectCourt fork = of(3, 1, 0, 1, 2);
+        EffectCourt fork = Courts.of(3, 1, 0, 1, 2);
         path(fork, 0, 2, 0, 11, 20);
         path(fork, 0, 2, 0b010);
-        EffectCourt meeting = of(5, 0, 1, 2, 1, 1, 3, 3, 4);
+        EffectCourt meeting = Courts.of(5, 0, 1, 2, 1, 1, 3, 3, 4);
         path(meeting, 0, 2, 0);
         path(meeting, 0, 2, 0b00010, 10, 21);
         path(meeting, 0, 2, 0b01000, 10, 21);
@@ -69,7 +58,7 @@ final class SeparationTest {
     }
 
     private static void hiddenCauses() {
-        EffectCourt x = of(4, 0, 1);
+        EffectCourt x = Courts.of(4, 0, 1);
         x.hide(1, 2);
         x.hide(2, 3);
         path(x, 0, 2, 0);
@@ -83,7 +72,7 @@ final class SeparationTest {
     }
 
     private static void whichPath() {
-        EffectCourt x = of(6, 0, 4, 4, 5, 0, 2, 2, 5, 0, 3, 3, 5, 0, 1);
+        EffectCourt x = Courts.of(6, 0, 4, 4, 5, 0, 2, 2, 5, 0, 3, 3, 5, 0, 1);
         path(x, 0, 5, 0, 20, 50);
         path(x, 0, 5, 0b000100, 30, 50);
         path(x, 0, 5, 0b001100, 40, 50);
@@ -99,7 +88,7 @@ final class SeparationTest {
     }
 
     private static void whichWay() {
-        EffectCourt x = of(3, 0, 1, 1, 2);
+        EffectCourt x = Courts.of(3, 0, 1, 1, 2);
         x.hide(1, 2);
         x.hide(0, 1);
         x.hide(0, 1);
@@ -116,22 +105,22 @@ final class SeparationTest {
 
     /** The arrow goes ahead only where the whole path is open by it. */
     private static void whichWayIsOpen() {
-        EffectCourt x = of(3, 1, 0, 1, 2);
+        EffectCourt x = Courts.of(3, 1, 0, 1, 2);
         x.hide(0, 1);
         x.hide(1, 2);
         path(x, 0, 2, 0, 11, 20);
         path(x, 0, 2, 0b010, 12, 23);
-        EffectCourt y = of(3, 0, 1, 1, 2);
+        EffectCourt y = Courts.of(3, 0, 1, 1, 2);
         y.hide(2, 1);
         path(y, 0, 2, 0b010, 10, 22);
-        EffectCourt z = of(4, 1, 0, 2, 1, 2, 3);
+        EffectCourt z = Courts.of(4, 1, 0, 2, 1, 2, 3);
         z.hide(0, 1);
         path(z, 0, 3, 0, 11, 21, 30);
         path(z, 0, 3, 0b0010, 12, 21, 30);
     }
 
     private static void wrongInputs() {
-        EffectCourt x = of(3, 0, 1);
+        EffectCourt x = Courts.of(3, 0, 1);
         int[][] outside = {{-1, 0, 0}, {3, 0, 0}, {0, 3, 0}, {0, -1, 0}, {3, 3, 8}, {9, 0, -1}};
         for (int[] each : outside) {
             wrong(x, each, RANGE);

@@ -19,19 +19,8 @@ final class WorldTest {
         expect.close();
     }
 
-    private static EffectCourt of(int size, int... arrows) {
-        EffectCourt court = new EffectCourt();
-        for (int count = 0; count < size; count++) {
-            court.variable();
-        }
-        for (int number = 0; number + 1 < arrows.length; number += 2) {
-            court.arrow(arrows[number], arrows[number + 1]);
-        }
-        return court;
-    }
-
     private static void bits() {
-        EffectCourt x = of(2, 0, 1);
+        EffectCourt x = Courts.of(2, 0, 1);
         expect.is("16 setBits(0, 65535)", 0, () -> x.setBits(0, 65535));
         expect.is("16 setBits(0, 0)", 65535, () -> x.setBits(0, 0));
         expect.is("16 setBits(0, 32768)", 0, () -> x.setBits(0, 32768));
@@ -52,7 +41,7 @@ final class WorldTest {
     }
 
     private static void rowCounts() {
-        EffectCourt x = of(6, 0, 5, 1, 5, 2, 5, 3, 5, 4, 5);
+        EffectCourt x = Courts.of(6, 0, 5, 1, 5, 2, 5, 3, 5, 4, 5);
         expect.is("17 rows(0)", 1, () -> x.rows(0));
         expect.is("17 rows(5)", 32, () -> x.rows(5));
         x.hide(5, 0);
@@ -69,7 +58,7 @@ final class WorldTest {
     }
 
     private static void fractions() {
-        EffectCourt x = of(1);
+        EffectCourt x = Courts.of(1);
         expect.is("18 one third", 666669, () -> x.chance(1, 1));
         expect.is("18 two thirds", 333335, () -> x.chance(1, 0));
         x.setBits(0, 1);
@@ -85,7 +74,7 @@ final class WorldTest {
 
     /** 2 has the parents 0 and 1 and the hidden causes 1 and 2: places 1, 2, 4 and 8. */
     private static void rowNumbers() {
-        EffectCourt x = of(4, 0, 2, 1, 2);
+        EffectCourt x = Courts.of(4, 0, 2, 1, 2);
         x.hide(0, 1);
         x.hide(2, 3);
         x.hide(0, 2);
@@ -113,7 +102,7 @@ final class WorldTest {
 
     /** With five parents there are rows 16 to 31, which take the places 0 to 15 again. */
     private static void rowsBeyondTheBits() {
-        EffectCourt x = of(6, 0, 5, 1, 5, 2, 5, 3, 5, 4, 5);
+        EffectCourt x = Courts.of(6, 0, 5, 1, 5, 2, 5, 3, 5, 4, 5);
         x.setBits(5, 0b1001);
         expect.is("18 row 0", Share.of(2, 3).told(), () -> x.chanceIf(32, 32, 31, 0));
         expect.is("18 row 16", Share.of(2, 3).told(), () -> x.chanceIf(32, 32, 31, 16));
@@ -126,7 +115,7 @@ final class WorldTest {
     }
 
     private static void conditions() {
-        EffectCourt x = of(3, 0, 1, 1, 2);
+        EffectCourt x = Courts.of(3, 0, 1, 1, 2);
         x.setBits(1, 0b10);
         expect.is("19 chanceIf(2, 2, 1, 1)", Share.of(2, 3).told(), () -> x.chanceIf(2, 2, 1, 1));
         expect.is("19 chanceIf(1, 1, 2, 2)", Share.of(1, 2).told(), () -> x.chanceIf(1, 1, 2, 2));
@@ -137,7 +126,7 @@ final class WorldTest {
     }
 
     private static void independence() {
-        EffectCourt x = of(3, 0, 2, 1, 2);
+        EffectCourt x = Courts.of(3, 0, 2, 1, 2);
         x.setBits(2, 0b1000);
         expect.is("20 two causes", true, () -> x.areIndependent(0, 1, 0));
         expect.is("20 two causes if what they meet in is known", false,
@@ -149,7 +138,7 @@ final class WorldTest {
         expect.is("20 joined, but without weight", true, () -> x.areIndependent(1, 2, 0));
         x.setBits(2, 0);
         expect.is("20 all bits alike", true, () -> x.areIndependent(0, 2, 2));
-        EffectCourt y = of(3, 0, 2);
+        EffectCourt y = Courts.of(3, 0, 2);
         y.hide(1, 2);
         y.setBits(1, 0b10);
         y.setBits(2, 0b1000);
@@ -166,7 +155,7 @@ final class WorldTest {
 
     /** The table is asked for between all changes, so that none of them may leave it behind. */
     private static void afterChanges() {
-        EffectCourt x = of(1);
+        EffectCourt x = Courts.of(1);
         expect.is("18 one variable", Share.of(1, 3).told(), () -> x.chance(1, 1));
         x.setBits(0, 0b10);
         expect.is("18 bits of a row that is not", Share.of(1, 3).told(), () -> x.chance(1, 1));
@@ -191,7 +180,7 @@ final class WorldTest {
     }
 
     private static void wrongInputs() {
-        EffectCourt x = of(3, 0, 1);
+        EffectCourt x = Courts.of(3, 0, 1);
         int[][] chances = {{8, 0}, {-1, 0}, {1, 2}, {1, -1}, {9, 1}, {7, 8},
             {Integer.MIN_VALUE, 0}, {0, Integer.MIN_VALUE}};
         for (int[] of : chances) {
