@@ -28,24 +28,14 @@ final class ClassTest {
         expect.is("27 all five that lead to one", 1,
                 () -> Courts.of(6, 0, 3, 1, 3, 2, 3, 4, 3, 5, 3).graphs());
         expect.is("27 three arrows apart", 8, () -> Courts.of(6, 0, 1, 2, 3, 4, 5).graphs());
-        expect.is("27 all joined", 720, () -> all(6).graphs());
-        expect.is("27 five that are all joined", 120, () -> all(5).graphs());
+        expect.is("27 all joined", 720, () -> Courts.all(6).graphs());
+        expect.is("27 five that are all joined", 120, () -> Courts.all(5).graphs());
         expect.is("27 a square with a diagonal", 3,
                 () -> Courts.of(4, 0, 1, 0, 2, 1, 3, 2, 3, 0, 3).graphs());
         expect.is("27 a square without its diagonal", 3,
                 () -> Courts.of(4, 0, 1, 0, 2, 1, 3, 2, 3).graphs());
         expect.is("27 met, but joined", 6, () -> Courts.of(3, 0, 2, 1, 2, 0, 1).graphs());
         expect.is("27 two of three leaves meet", 1, () -> Courts.of(4, 0, 3, 1, 3, 3, 2).graphs());
-    }
-
-    private static EffectCourt all(int size) {
-        EffectCourt court = Courts.of(size);
-        for (int to = 0; to < size; to++) {
-            for (int from = 0; from < to; from++) {
-                court.arrow(from, to);
-            }
-        }
-        return court;
     }
 
     private static void told() {
@@ -109,7 +99,7 @@ final class ClassTest {
         expect.is("31 no arrow", 0.0, () -> Courts.of(1).meanParents());
         expect.is("31 one of two", 0.5, () -> Courts.of(2, 1, 0).meanParents());
         expect.is("31 two of three", 2.0 / 3.0, () -> Courts.of(3, 1, 0, 2, 0).meanParents());
-        expect.is("31 all", 2.5, () -> all(6).meanParents());
+        expect.is("31 all", 2.5, () -> Courts.all(6).meanParents());
         EffectCourt x = Courts.of(2);
         x.hide(0, 1);
         expect.is("31 hidden causes are no parents", 0.0, () -> x.meanParents());

@@ -270,7 +270,8 @@ final class RandomTest {
             }
         }
         EffectCourt last = x;
-        Object share = pairs == 0 ? ArithmeticException.class : (Object) ((float) identified / pairs);
+        Object share = pairs == 0 ? ArithmeticException.class
+                : (Object) ((float) identified / pairs);
         expect.is("identifiedShare()" + of, share, () -> last.identifiedShare());
     }
 
